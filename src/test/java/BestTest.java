@@ -35,6 +35,7 @@ public final class BestTest {
         MuckForFour x = Check.told("yl100240;h409;u120;");
         Check.due("bestHod(0)", x.bestHod(0), 10);
         Check.due("bestHod(30)", x.bestHod(30), 18);
+        Check.due("bestHod(26)", x.bestHod(26), 17);
         x.set(1, 17);
         Check.due("LAID with 17", x.total(30, 0), 20);
         x.set(1, 18);
@@ -45,6 +46,7 @@ public final class BestTest {
 
     private static void bestBatch() {
         MuckForFour x = Check.told("yl100240;h401;");
+        Check.due("bestBatch(0)", x.bestBatch(0), 20);
         Check.due("bestBatch(10)", x.bestBatch(10), 20);
         Check.due("bestBatch(21)", x.bestBatch(21), 40);
         x.set(4, 30);
@@ -57,11 +59,13 @@ public final class BestTest {
 
     private static void oneMateMore() {
         MuckForFour x = Check.told("yl400000;u120;");
+        Check.due("mate(0)", x.mate(0), 0);
         Check.due("mate(6)", x.mate(6), 0);
         Check.due("mate(7)", x.mate(7), 4);
         Check.due("mate(8)", x.mate(8), 8);
         x.go(3);
         Check.due("mate(5), while one is busy", x.mate(5), 8);
+        Check.due("none is wanted", Check.told("yl160240;u120;").mate(9), 0);
         MuckForFour y = Check.told("m3;");
         Check.due("there are 3", y.mate(5), 1000000003);
         Check.due("mate(-1) with 3", y.mate(-1), 1000000004);
@@ -70,6 +74,7 @@ public final class BestTest {
 
     private static void hoist() {
         MuckForFour x = Check.told("yl400000;u120;");
+        Check.due("hoist(0)", x.hoist(0), 0);
         Check.due("hoist(3)", x.hoist(3), 0);
         Check.due("hoist(4)", x.hoist(4), 4);
         Check.due("hoist(8)", x.hoist(8), 20);

@@ -64,6 +64,7 @@ public final class MindTest {
         Check.due("inStep(0)", x.inStep(0), 0);
         Check.due("inStep(3)", x.inStep(3), 0);
         Check.due("inStep(5)", x.inStep(5), 2);
+        Check.due("inStep(5) again", x.inStep(5), 2);
         Check.due("three at once are one MINUTE", Check.told("yl100000;yl100000;yl100000;").inStep(9), 9);
         Check.due("one alone is none", Check.told("yl100000;").inStep(9), 0);
     }

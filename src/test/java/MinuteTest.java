@@ -100,6 +100,7 @@ public final class MinuteTest {
         MuckForFour x = Check.told("yl139240;h401;u120;");
         Check.due("mortar lost", x.total(1, 4), 18);
         Check.due("board then", x.left(1, 0, 0), 60);
+        Check.due("mortar lost of both", Check.told("yl139240;yl139240;m2;h401;u120;").total(1, 4), 36);
         MuckForFour y = Check.told("yl160010;h202;");
         y.go(1);
         y.put(0, 1, 240);
@@ -159,6 +160,7 @@ public final class MinuteTest {
         served("u120;yt312240;yl313240;rs;", 0);
         served("u120;yl310240;yt310240;yt309240;rs;", 0);
         served("u120;yl360006;yl360005;rs;", 1);
+        served("u120;yl160006;yl460008;rs;", 1);
         served("u120;yl360010;yl360009;re;", 1);
         served("u120;yl160240;rf;", -9);
     }
