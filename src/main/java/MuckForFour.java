@@ -31,6 +31,9 @@ public final class MuckForFour {
     private static final int LOT_MINUTES = 60;
     /** How a row tells a mixing: no layer has this number. */
     private static final int A_MIXING = 9;
+    /** A minute that no pass comes to. */
+    private static final int NEVER = 1000000;
+    private static final int ALL_BITS_BUT_THE_SIGN = 0x7fffffff;
 
     private static final int MATES = 0;
     private static final int HOD = 1;
@@ -358,7 +361,7 @@ public final class MuckForFour {
         mind.water = w;
         mind.pass(n);
         int laid = mind.tally.laid;
-        return what == 0 ? laid - laidWithout : laid * w / (now.hod + w);
+        return what == 0 ? laid - laidWithout : weakOf(laid, w, now.hod + w);
     }
 
     public int badly() {
@@ -520,6 +523,10 @@ public final class MuckForFour {
         return best;
     }
 
+    private static int weakOf(int laid, int water, int unitsInHod) {
+        return unitsInHod > 0 ? laid * water / unitsInHod : 0;
+    }
+
     private boolean rowFitsUnits(int units) {
         for (int i = 0; i + 1 < toldCount; i += 2) {
             if (told[i] * units != told[i + 1]) {
@@ -534,7 +541,7 @@ public final class MuckForFour {
     }
 
     private static int draw(int seed, int below) {
-        return below > 0 ? (seed & Integer.MAX_VALUE) / 256 % below : 0;
+        return below > 0 ? (seed & ALL_BITS_BUT_THE_SIGN) / 256 % below : 0;
     }
 
     private static int unitsOf(int kind) {
@@ -603,22 +610,31 @@ public final class MuckForFour {
         /** The place of the first letter with which no site can go on, or of the end; -1 if all is shaped well. */
         int shapeFault() {
             int place = 0;
-            do {
-                int behind = place + statementLength(place);
-                if (behind == place) {
-                    return place;
+            for (int statements = 0; statements < MOST_LETTERS; statements++) {
+                int fault = statementFault(place);
+                if (fault >= 0) {
+                    return fault;
                 }
-                for (int i = place + 1; i < behind - 1; i++) {
-                    if (!fits(i, place)) {
-                        return i;
-                    }
+                place += statementLength(place);
+                if (place >= length) {
+                    return -1;
                 }
-                if (at(behind - 1) != ';') {
-                    return behind - 1;
+            }
+            return place;
+        }
+
+        /** As shapeFault, of the statement that begins at a place. */
+        private int statementFault(int start) {
+            int last = start + statementLength(start) - 1;
+            if (last < start) {
+                return start;
+            }
+            for (int i = start + 1; i < last; i++) {
+                if (!fits(i, start)) {
+                    return i;
                 }
-                place = behind;
-            } while (place < length);
-            return -1;
+            }
+            return at(last) == ';' ? -1 : last;
         }
 
         /** How many letters a statement has that begins as this one does, with its ";"; 0 if none begins so. */
@@ -838,7 +854,7 @@ public final class MuckForFour {
         /** Units of water in each hod of mortar that arrives: in mind alone. */
         private int water = 0;
         /** From this minute of a pass on nobody begins to mix: in mind alone. */
-        private int mixingEnds = Integer.MAX_VALUE;
+        private int mixingEnds = NEVER;
         private final Tally tally = new Tally();
 
         Site() {
@@ -869,7 +885,7 @@ public final class MuckForFour {
             laidInAll = other.laidInAll;
             servedLatest = other.servedLatest;
             water = 0;
-            mixingEnds = Integer.MAX_VALUE;
+            mixingEnds = NEVER;
         }
 
         boolean hasLayer(int number) {

@@ -65,6 +65,23 @@ final class Check {
         return all.toString();
     }
 
+    /** What can be seen of the state with all settings, without a change of it. */
+    static String all(MuckForFour x) {
+        StringBuilder all = new StringBuilder(seen(x));
+        int[] least = {1, 10, 1, 1, 20};
+        for (int what = 1; what < least.length; what++) {
+            int was = x.set(what, least[what]);
+            x.set(what, was);
+            all.append(was).append(' ');
+        }
+        return all.toString();
+    }
+
+    /** What is seen when the row is looked at, and the image: both change the state. */
+    static String end(MuckForFour x) {
+        return x.badly() + " " + x.judge() + " " + x.on() + " " + all(x);
+    }
+
     static int refusals(MuckForFour x) {
         int all = 0;
         for (int what = 11; what <= 16; what++) {
